@@ -192,6 +192,14 @@ public final class PromisesTest {
         faultIs("l10;", 1);
         faultIs("l1;l1;", 3);
         faultIs("l1;n5;l1", 6);
+        faultIs("r;", 1);
+        faultIs("r0;", 2);
+        faultIs("r0 1;", 4);
+        faultIs("s;", 1);
+        faultIs("r0 1 1;s0;", 9);
+        faultIs("g;", 1);
+        faultIs("n;", 1);
+        faultIs("l;", 1);
         faultIs("P3;", 0);
         faultIs("n1;" + (char) 233, 3);
         faultIs(" ".repeat(199) + "p", 200);
@@ -225,6 +233,26 @@ public final class PromisesTest {
         due.is("TRACE anew stays", x.trace(), 1);
         due.is("town() of no text", x.town(), 0);
         countsAre("anew, of no text", x, 2, 0, 0, 1, 2, 1, 0, 0, 0);
+        townOftenAnew();
+    }
+
+    private static void townOftenAnew() {
+        TurnVoice x = new TurnVoice();
+        for (int i = 0; i < 4; i++) {
+            add(x, "p3;r0 1 5;r1 2 7;s0 1;g1 2;n9;l9;");
+            due.is("town() of seven", x.town(), 7);
+            due.is("BEGIN as told", x.now(0), 1);
+            due.is("a TURN", x.takes(1) + x.takes(1), 7 + 16);
+            x.jams(0, 3);
+            add(x, "r0 1 5;r0 1 7;");
+            due.is("town() of two", x.town(), 2);
+            countsAre("anew, not told", x, 2, 2, 0, 1, 2, 1, 0, 0, 0);
+            nowIs("anew, not told", x, 0, NONE, 0, 0, 0, 0);
+            due.is("JAM anew", x.road(0, 3), 0);
+            due.is("STRAIGHT anew", x.road(0, 5), 0);
+            // a third text, so that one of any two rooms that texts are read into gets unlike ones in turn
+            due.is("town() of none", x.town(), 0);
+        }
     }
 
     /** 5 */
@@ -406,6 +434,9 @@ public final class PromisesTest {
     }
 
     private static void wayOfSeveral() {
+        wayIs("by all of twelve", told("p8;r0 1 1;r1 2 1;r2 3 1;r3 4 1;r4 5 1;r5 6 1;r6 7 1;r0 7 60;r1 7 60;r2 7 60;r3 7 60;r4 7 60;g0 7;"),
+            19, 6, 0, 1, 2, 3, 4, 5, 6);
+        wayIs("the last arrival is the best", told("p4;r0 1 9;r0 2 2;r2 3 2;r3 1 2;n0;"), 6, 2, 1, 2, 3);
         wayIs("of two alike", told("r0 1 4;r1 0 4;"), 4, 0, 0);
         wayIs("the first road by road", told("p4;r0 2 1;r0 2 1;r2 1 1;r2 1 1;s1 2;s1 3;s0 3;"), 2, 0, 0, 3);
         wayIs("more roads, but first", told("p3;r0 2 1;r0 1 2;r2 1 1;n0;"), 2, 1, 0, 2);
@@ -676,9 +707,14 @@ public final class PromisesTest {
         oddsAre("one SHUT", x, 2, 1, 1, 1);
         x.shuts(2, 1);
         oddsAre("all SHUT: stays", x, 0, 4, 1, 1);
+        oddsAre("all SHUT: stays", x, 0, 3, 1, 1);
         oddsAre("all SHUT: elsewhere", x, 1, 4, 0, 1);
         TurnVoice y = told("p3;r0 1 1;r0 1 1;r0 2 1;");
         oddsAre("two roads to one place", y, 1, 1, 2, 3);
+        TurnVoice z = told("p8;r0 1 1;r0 1 1;r0 2 1;r0 3 1;r0 4 1;r0 5 1;r0 6 1;r7 1 1;r7 1 1;r7 1 1;r7 2 1;r7 3 1;");
+        oddsAre("twelve roads, two of them", z, 7, 2, 11, 35);
+        // 24/35 are at 0 behind two and 11/35 at 7; from 7 back to 7 behind two: 14/25
+        oddsAre("twelve roads, four of them", z, 7, 4, 24 * 11 * 5 + 11 * 14 * 7, 35 * 35 * 5);
         due.is("odds(3, 0, 0)", y.odds(3, 0, 0), BAD);
         due.is("odds(-1, 0, 0)", y.odds(-1, 0, 0), BAD);
         due.is("odds(0, 5, 0)", y.odds(0, 5, 0), BAD);
