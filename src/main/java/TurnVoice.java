@@ -120,7 +120,7 @@ public final class TurnVoice {
         if (!map.hasRoad(r)) {
             return BAD;
         }
-        if (present.isShut(r) || !map.meets(r, present.at)) {
+        if (!canTake(r, present.at)) {
             return STATE;
         }
         int took = minutesOfTaking(present.came, r);
@@ -193,7 +193,7 @@ public final class TurnVoice {
     }
 
     public int on(int r) {
-        if (!map.hasRoad(r) || present.isShut(r) || !map.meets(r, present.at)) {
+        if (!map.hasRoad(r) || !canTake(r, present.at)) {
             return BAD;
         }
         voice.look(map, present);
