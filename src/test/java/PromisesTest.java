@@ -8,8 +8,8 @@ public final class PromisesTest {
     private static final int LEAST = Integer.MIN_VALUE;
     private static final int MOST = Integer.MAX_VALUE;
 
-    private static final String SQUARE = "p5;r0 1 8;r1 4 9;r0 2 5;r2 3 4;r3 4 6;r1 3 2;s0 1;s2 3;g0 4;n3;l2;";
-    private static final String LOOP = "p5;r0 1 1;r1 2 1;r1 3 1;r3 4 1;r3 4 1;s0 2;s2 3;s3 4;s4 2;s2 1;n20;g0 2;";
+    private static final String SQUARE = Towns.SQUARE;
+    private static final String LOOP = Towns.LOOP;
     private static final Due due = new Due();
 
     public static void main(String[] args) {
@@ -47,24 +47,6 @@ public final class PromisesTest {
         count();
         trace();
         due.end();
-    }
-
-    private static TurnVoice typed(String text) {
-        TurnVoice x = new TurnVoice();
-        add(x, text);
-        return x;
-    }
-
-    private static void add(TurnVoice x, String text) {
-        for (int i = 0; i < text.length(); i++) {
-            x.type(text.charAt(i));
-        }
-    }
-
-    private static TurnVoice told(String text) {
-        TurnVoice x = typed(text);
-        due.holds("town() of " + text, x.town() >= 0);
-        return x;
     }
 
     private static void wayIs(String what, TurnVoice x, int minutes, int turns, int... roads) {
@@ -118,7 +100,7 @@ public final class PromisesTest {
 
     /** 3 */
     private static void clear() {
-        TurnVoice x = typed("p3;");
+        TurnVoice x = Towns.typed("p3;");
         due.is("clear()", x.clear(), 3);
         due.is("clear() again", x.clear(), 0);
         due.is("type behind clear", x.type('p'), 1);
@@ -131,21 +113,21 @@ public final class PromisesTest {
     /** 4 */
     private static void town() {
         due.is("town() of nothing", new TurnVoice().town(), 0);
-        due.is("town() of blanks", typed("   ").town(), 0);
-        due.is("town() without p", typed("r0 1 60;r1 0 1;s0 1;s1 0;s0 1;").town(), 5);
-        due.is("town() with blanks", typed("  p 8 ;g 7   7;  n20;l 0;  ").town(), 4);
-        due.is("g where begin is goal", typed("g1 1;").town(), 1);
-        due.is("twelve roads", typed("r0 1 1;".repeat(12)).town(), 12);
-        due.is("straight roads that never meet", typed("p4;r0 1 1;r2 3 1;s0 1;").town(), 4);
-        TurnVoice x = told(SQUARE);
+        due.is("town() of blanks", Towns.typed("   ").town(), 0);
+        due.is("town() without p", Towns.typed("r0 1 60;r1 0 1;s0 1;s1 0;s0 1;").town(), 5);
+        due.is("town() with blanks", Towns.typed("  p 8 ;g 7   7;  n20;l 0;  ").town(), 4);
+        due.is("g where begin is goal", Towns.typed("g1 1;").town(), 1);
+        due.is("twelve roads", Towns.typed("r0 1 1;".repeat(12)).town(), 12);
+        due.is("straight roads that never meet", Towns.typed("p4;r0 1 1;r2 3 1;s0 1;").town(), 4);
+        TurnVoice x = Towns.told(SQUARE);
         countsAre("as told", x, 5, 6, 0, 4, 3, 2, 0, 0, 0);
-        TurnVoice y = told("g1 0;l9;n0;r0 1 1;");
+        TurnVoice y = Towns.told("g1 0;l9;n0;r0 1 1;");
         countsAre("as told in another order", y, 2, 1, 1, 0, 0, 9, 0, 0, 0);
         due.is("now(0) at the told begin", y.now(0), 1);
     }
 
     private static void faultIs(String text, int place) {
-        TurnVoice x = typed(text);
+        TurnVoice x = Towns.typed(text);
         due.is("town() of '" + text + "'", x.town(), -10 - place);
         countsAre("behind the fault of '" + text + "'", x, 2, 0, 0, 1, 2, 1, 0, 0, text.length());
     }
@@ -206,7 +188,7 @@ public final class PromisesTest {
     }
 
     private static void townAnew() {
-        TurnVoice x = told(SQUARE);
+        TurnVoice x = Towns.told(SQUARE);
         x.takes(0);
         x.jams(1, 7);
         x.shuts(2, 1);
@@ -214,7 +196,7 @@ public final class PromisesTest {
         x.saw(1, 1);
         x.keep(0);
         x.rate(0, 0);
-        add(x, "p5;q");
+        Towns.add(x, "p5;q");
         due.is("town() with a fault", x.town(), -13);
         countsAre("behind a fault", x, 5, 6, 0, 4, 3, 2, 1, 1, 4);
         nowIs("behind a fault", x, 1, 0, 8, 0, 4, 3);
@@ -222,7 +204,7 @@ public final class PromisesTest {
         due.is("image behind a fault", x.back(0), 8);
         x.jams(0, 1);
         x.clear();
-        add(x, "p3;r0 1 5;r1 2 7;r0 2 9;");
+        Towns.add(x, "p3;r0 1 5;r1 2 7;r0 2 9;");
         due.is("town() anew", x.town(), 4);
         countsAre("anew", x, 3, 3, 0, 1, 2, 1, 0, 0, 0);
         nowIs("anew", x, 0, NONE, 0, 0, 0, 0);
@@ -239,12 +221,12 @@ public final class PromisesTest {
     private static void townOftenAnew() {
         TurnVoice x = new TurnVoice();
         for (int i = 0; i < 4; i++) {
-            add(x, "p3;r0 1 5;r1 2 7;s0 1;g1 2;n9;l9;");
+            Towns.add(x, "p3;r0 1 5;r1 2 7;s0 1;g1 2;n9;l9;");
             due.is("town() of seven", x.town(), 7);
             due.is("BEGIN as told", x.now(0), 1);
             due.is("a TURN", x.takes(1) + x.takes(1), 7 + 16);
             x.jams(0, 3);
-            add(x, "r0 1 5;r0 1 7;");
+            Towns.add(x, "r0 1 5;r0 1 7;");
             due.is("town() of two", x.town(), 2);
             countsAre("anew, not told", x, 2, 2, 0, 1, 2, 1, 0, 0, 0);
             nowIs("anew, not told", x, 0, NONE, 0, 0, 0, 0);
@@ -257,7 +239,7 @@ public final class PromisesTest {
 
     /** 5 */
     private static void road() {
-        TurnVoice x = told("p3;r2 0 60;r0 1 5;r1 2 7;s0 1;s2 0;");
+        TurnVoice x = Towns.told("p3;r2 0 60;r0 1 5;r1 2 7;s0 1;s2 0;");
         int[] want = {2, 0, 60, 0, 0, 6};
         for (int what = 0; what < 6; what++) {
             due.is("road(0, " + what + ")", x.road(0, what), want[what]);
@@ -278,7 +260,7 @@ public final class PromisesTest {
 
     /** 6 */
     private static void place() {
-        TurnVoice x = told(SQUARE);
+        TurnVoice x = Towns.told(SQUARE);
         due.is("place(0)", x.place(0), 5);
         due.is("place(1)", x.place(1), 35);
         due.is("place(4)", x.place(4), 18);
@@ -292,7 +274,7 @@ public final class PromisesTest {
 
     /** 7 */
     private static void now() {
-        TurnVoice x = told(SQUARE);
+        TurnVoice x = Towns.told(SQUARE);
         nowIs("at first", x, 0, NONE, 0, 0, 0, 0);
         x.takes(2);
         x.takes(2);
@@ -305,7 +287,7 @@ public final class PromisesTest {
 
     /** 8 */
     private static void takes() {
-        TurnVoice x = told(SQUARE);
+        TurnVoice x = Towns.told(SQUARE);
         due.is("the first is no TURN", x.takes(0), 8);
         due.is("STRAIGHT is no TURN", x.takes(1), 9);
         due.is("another is a TURN", x.takes(4), 9);
@@ -324,7 +306,7 @@ public final class PromisesTest {
     }
 
     private static void takesTo9999() {
-        TurnVoice x = told("r0 1 60;r0 1 1;n0;");
+        TurnVoice x = Towns.told("r0 1 60;r0 1 1;n0;");
         x.jams(0, 60);
         for (int i = 0; i < 83; i++) {
             due.is("takes(0) the " + i + "th", x.takes(0), 120);
@@ -342,7 +324,7 @@ public final class PromisesTest {
 
     /** 9 */
     private static void jams() {
-        TurnVoice x = told(SQUARE);
+        TurnVoice x = Towns.told(SQUARE);
         due.is("jams(1, 60)", x.jams(1, 60), 0);
         due.is("jams(1, 12)", x.jams(1, 12), 60);
         due.is("jams(1, 12) again", x.jams(1, 12), 12);
@@ -358,7 +340,7 @@ public final class PromisesTest {
 
     /** 10 */
     private static void shuts() {
-        TurnVoice x = told(SQUARE);
+        TurnVoice x = Towns.told(SQUARE);
         due.is("it is open", x.shuts(0, 0), STATE);
         due.is("shuts(0, 1)", x.shuts(0, 1), 1);
         due.is("it is shut", x.shuts(0, 1), STATE);
@@ -373,7 +355,7 @@ public final class PromisesTest {
 
     /** 11 */
     private static void undo() {
-        TurnVoice x = told(SQUARE);
+        TurnVoice x = Towns.told(SQUARE);
         due.is("none", x.undo(), STATE);
         x.takes(0);
         x.takes(0);
@@ -396,7 +378,7 @@ public final class PromisesTest {
     }
 
     private static void undoTen() {
-        TurnVoice x = told(SQUARE);
+        TurnVoice x = Towns.told(SQUARE);
         for (int n = 1; n <= 23; n++) {
             x.jams(0, n);
         }
@@ -411,7 +393,7 @@ public final class PromisesTest {
 
     /** 12 */
     private static void way() {
-        TurnVoice x = told(SQUARE);
+        TurnVoice x = Towns.told(SQUARE);
         wayIs("as told", x, 17, 0, 0, 1);
         x.jams(1, 12);
         wayIs("with a JAM", x, 18, 1, 2, 3, 4);
@@ -429,23 +411,23 @@ public final class PromisesTest {
             due.is("no way, way(" + k + ")", x.way(k), NONE);
         }
         due.is("bad ahead of no way", x.way(-3), BAD);
-        wayIs("a road twice", told(LOOP), 6, 0, 0, 2, 3, 4, 2, 1);
+        wayIs("a road twice", Towns.told(LOOP), 6, 0, 0, 2, 3, 4, 2, 1);
         nowIs("nothing is changed", x, 3, 4, 27, 2, 18, 7);
     }
 
     private static void wayOfSeveral() {
-        wayIs("by all of twelve", told("p8;r0 1 1;r1 2 1;r2 3 1;r3 4 1;r4 5 1;r5 6 1;r6 7 1;r0 7 60;r1 7 60;r2 7 60;r3 7 60;r4 7 60;g0 7;"),
+        wayIs("by all of twelve", Towns.told("p8;r0 1 1;r1 2 1;r2 3 1;r3 4 1;r4 5 1;r5 6 1;r6 7 1;r0 7 60;r1 7 60;r2 7 60;r3 7 60;r4 7 60;g0 7;"),
             19, 6, 0, 1, 2, 3, 4, 5, 6);
-        wayIs("the last arrival is the best", told("p4;r0 1 9;r0 2 2;r2 3 2;r3 1 2;n0;"), 6, 2, 1, 2, 3);
-        wayIs("of two alike", told("r0 1 4;r1 0 4;"), 4, 0, 0);
-        wayIs("the first road by road", told("p4;r0 2 1;r0 2 1;r2 1 1;r2 1 1;s1 2;s1 3;s0 3;"), 2, 0, 0, 3);
-        wayIs("more roads, but first", told("p3;r0 2 1;r0 1 2;r2 1 1;n0;"), 2, 1, 0, 2);
-        wayIs("turns cost nothing", told("p3;r0 1 2;r0 2 1;r2 1 1;n0;"), 2, 0, 0);
+        wayIs("the last arrival is the best", Towns.told("p4;r0 1 9;r0 2 2;r2 3 2;r3 1 2;n0;"), 6, 2, 1, 2, 3);
+        wayIs("of two alike", Towns.told("r0 1 4;r1 0 4;"), 4, 0, 0);
+        wayIs("the first road by road", Towns.told("p4;r0 2 1;r0 2 1;r2 1 1;r2 1 1;s1 2;s1 3;s0 3;"), 2, 0, 0, 3);
+        wayIs("more roads, but first", Towns.told("p3;r0 2 1;r0 1 2;r2 1 1;n0;"), 2, 1, 0, 2);
+        wayIs("turns cost nothing", Towns.told("p3;r0 1 2;r0 2 1;r2 1 1;n0;"), 2, 0, 0);
     }
 
     /** 13 */
     private static void round() {
-        TurnVoice x = told("p3;r0 1 5;r1 2 3;r0 2 9;g0 2;n4;");
+        TurnVoice x = Towns.told("p3;r0 1 5;r1 2 3;r0 2 9;g0 2;n4;");
         due.is("came by none", x.round(), 0);
         x.takes(2);
         due.is("at GOAL", x.round(), NONE);
@@ -461,7 +443,7 @@ public final class PromisesTest {
 
     /** 14 */
     private static void on() {
-        TurnVoice x = told(SQUARE);
+        TurnVoice x = Towns.told(SQUARE);
         due.is("on(0)", x.on(0), 17);
         due.is("on(2)", x.on(2), 18);
         due.is("on(1) is not there", x.on(1), BAD);
@@ -482,7 +464,7 @@ public final class PromisesTest {
 
     /** 15 */
     private static void worst() {
-        TurnVoice x = told(SQUARE);
+        TurnVoice x = Towns.told(SQUARE);
         due.is("worst(0)", x.worst(0), 0);
         due.is("worst(1)", x.worst(1), 18);
         due.is("worst(2)", x.worst(2), BAD);
@@ -497,7 +479,7 @@ public final class PromisesTest {
         due.is("worst(0), no WAY now", x.worst(0), NONE);
         due.is("worst(1), no WAY now", x.worst(1), NONE);
         due.is("bad ahead of no WAY", x.worst(2), BAD);
-        TurnVoice y = told("r0 1 5;r0 1 3;g1 1;");
+        TurnVoice y = Towns.told("r0 1 5;r0 1 3;g1 1;");
         due.is("worst(0) at GOAL", y.worst(0), 0);
         due.is("worst(1) at GOAL", y.worst(1), 0);
         y.shuts(0, 1);
@@ -509,7 +491,7 @@ public final class PromisesTest {
 
     /** 16 */
     private static void plans() {
-        TurnVoice x = told(SQUARE);
+        TurnVoice x = Towns.told(SQUARE);
         due.is("plans(6)", x.plans(6), BAD);
         due.is("plans(-1)", x.plans(-1), BAD);
         for (int i = 1; i <= 8; i++) {
@@ -522,7 +504,7 @@ public final class PromisesTest {
 
     /** 17 */
     private static void drops() {
-        TurnVoice x = told(SQUARE);
+        TurnVoice x = Towns.told(SQUARE);
         due.is("drops() of none", x.drops(), 0);
         x.plans(0);
         x.plans(0);
@@ -533,7 +515,7 @@ public final class PromisesTest {
 
     /** 18 */
     private static void his() {
-        TurnVoice x = told(SQUARE);
+        TurnVoice x = Towns.told(SQUARE);
         due.is("nothing planned", x.his(0), 17);
         x.plans(2);
         x.plans(2);
@@ -559,7 +541,7 @@ public final class PromisesTest {
 
     /** 19 */
     private static void cars() {
-        TurnVoice x = told(LOOP);
+        TurnVoice x = Towns.told(LOOP);
         due.is("a road twice, one", x.cars(1, 0), 6);
         due.is("a road twice, one alike", x.cars(1, 1), 6);
         due.is("a road twice, one by one", x.cars(2, 0), 6 + 14);
@@ -578,21 +560,21 @@ public final class PromisesTest {
         x.shuts(1, 1);
         due.is("no way", x.cars(2, 0), NONE);
         due.is("no way alike", x.cars(2, 1), NONE);
-        TurnVoice y = told("r0 1 5;r0 1 6;l1;");
+        TurnVoice y = Towns.told("r0 1 5;r0 1 6;l1;");
         due.is("one by one, by two roads", y.cars(3, 0), 5 + 6 + 6);
         due.is("alike, by one road", y.cars(3, 1), 21);
         due.is("twenty", y.cars(20, 1), 20 * 24);
-        TurnVoice z = told("r0 1 5;g1 1;");
+        TurnVoice z = Towns.told("r0 1 5;g1 1;");
         due.is("BEGIN is GOAL", z.cars(20, 0), 0);
         due.is("BEGIN is GOAL, alike", z.cars(20, 1), 0);
-        TurnVoice w = told("r0 1 5;l0;");
+        TurnVoice w = Towns.told("r0 1 5;l0;");
         due.is("no LOAD", w.cars(4, 0), 20);
         due.is("no LOAD, alike", w.cars(4, 1), 20);
     }
 
     /** 20 */
     private static void tunnel() {
-        TurnVoice x = told(SQUARE);
+        TurnVoice x = Towns.told(SQUARE);
         int[] want = {1, 6, 25, 30, 31, 31};
         for (int k = 0; k < want.length; k++) {
             due.is("tunnel(" + k + ")", x.tunnel(k), want[k]);
@@ -613,7 +595,7 @@ public final class PromisesTest {
 
     /** 21 */
     private static void saw() {
-        TurnVoice x = told(SQUARE);
+        TurnVoice x = Towns.told(SQUARE);
         due.is("saw(9, 0)", x.saw(9, 0), BAD);
         due.is("saw(-1, 0)", x.saw(-1, 0), BAD);
         due.is("saw(0, 5)", x.saw(0, 5), BAD);
@@ -630,7 +612,7 @@ public final class PromisesTest {
 
     /** 22 */
     private static void forget() {
-        TurnVoice x = told(SQUARE);
+        TurnVoice x = Towns.told(SQUARE);
         due.is("forget() of none", x.forget(), 0);
         x.saw(0, 1);
         x.saw(0, 1);
@@ -641,7 +623,7 @@ public final class PromisesTest {
 
     /** 23 */
     private static void where() {
-        TurnVoice x = told(SQUARE);
+        TurnVoice x = Towns.told(SQUARE);
         due.is("where(2), none SEEN", x.where(2), 25);
         x.saw(2, 3);
         due.is("where(1) ahead of it", x.where(1), 6);
@@ -666,7 +648,7 @@ public final class PromisesTest {
 
     /** 24 */
     private static void which() {
-        TurnVoice x = told(SQUARE);
+        TurnVoice x = Towns.told(SQUARE);
         due.is("which(0, 17)", x.which(0, 17), 63);
         due.is("which(1, 18)", x.which(1, 18), 3);
         due.is("which(1, 17)", x.which(1, 17), 60);
@@ -686,7 +668,7 @@ public final class PromisesTest {
         due.is("which(0, 1000)", x.which(0, 1000), BAD);
         due.is("which(0, -1)", x.which(0, -1), BAD);
         due.is("which(0, 999)", x.which(0, 999), 0);
-        due.is("BEGIN is GOAL", told("r0 1 5;g1 1;").which(60, 0), 1);
+        due.is("BEGIN is GOAL", Towns.told("r0 1 5;g1 1;").which(60, 0), 1);
     }
 
     private static void oddsAre(String what, TurnVoice x, int p, int n, long upper, long lower) {
@@ -696,7 +678,7 @@ public final class PromisesTest {
 
     /** 25 */
     private static void odds() {
-        TurnVoice x = told(SQUARE);
+        TurnVoice x = Towns.told(SQUARE);
         oddsAre("here", x, 0, 0, 1, 1);
         oddsAre("not here", x, 1, 0, 0, 1);
         oddsAre("one road", x, 1, 1, 1, 2);
@@ -709,9 +691,9 @@ public final class PromisesTest {
         oddsAre("all SHUT: stays", x, 0, 4, 1, 1);
         oddsAre("all SHUT: stays", x, 0, 3, 1, 1);
         oddsAre("all SHUT: elsewhere", x, 1, 4, 0, 1);
-        TurnVoice y = told("p3;r0 1 1;r0 1 1;r0 2 1;");
+        TurnVoice y = Towns.told("p3;r0 1 1;r0 1 1;r0 2 1;");
         oddsAre("two roads to one place", y, 1, 1, 2, 3);
-        TurnVoice z = told("p8;r0 1 1;r0 1 1;r0 2 1;r0 3 1;r0 4 1;r0 5 1;r0 6 1;r7 1 1;r7 1 1;r7 1 1;r7 2 1;r7 3 1;");
+        TurnVoice z = Towns.told("p8;r0 1 1;r0 1 1;r0 2 1;r0 3 1;r0 4 1;r0 5 1;r0 6 1;r7 1 1;r7 1 1;r7 1 1;r7 2 1;r7 3 1;");
         oddsAre("twelve roads, two of them", z, 7, 2, 11, 35);
         // 24/35 are at 0 behind two and 11/35 at 7; from 7 back to 7 behind two: 14/25
         oddsAre("twelve roads, four of them", z, 7, 4, 24 * 11 * 5 + 11 * 14 * 7, 35 * 35 * 5);
@@ -725,7 +707,7 @@ public final class PromisesTest {
 
     /** 26 */
     private static void rate() {
-        TurnVoice x = told(SQUARE);
+        TurnVoice x = Towns.told(SQUARE);
         x.takes(0);
         x.takes(0);
         x.jams(3, 7);
@@ -739,7 +721,7 @@ public final class PromisesTest {
         due.is("rate(-1, 0)", x.rate(-1, 0), NO);
         due.is("rate(0, 6)", x.rate(0, 6), NO);
         due.is("rate(0, -1)", x.rate(0, -1), NO);
-        TurnVoice y = told("r0 1 1;r0 1 1;r0 1 1;");
+        TurnVoice y = Towns.told("r0 1 1;r0 1 1;r0 1 1;");
         y.shuts(0, 1);
         y.shuts(1, 1);
         y.shuts(2, 1);
@@ -748,7 +730,7 @@ public final class PromisesTest {
 
     /** 27 */
     private static void keep() {
-        TurnVoice x = told(SQUARE);
+        TurnVoice x = Towns.told(SQUARE);
         due.is("keep(0) at first", x.keep(0), 0);
         x.takes(0);
         due.is("keep(1)", x.keep(1), 8);
@@ -763,7 +745,7 @@ public final class PromisesTest {
 
     /** 28 */
     private static void back() {
-        TurnVoice x = told(SQUARE);
+        TurnVoice x = Towns.told(SQUARE);
         due.is("none was kept", x.back(1), STATE);
         due.is("back(2)", x.back(2), BAD);
         due.is("back(-1)", x.back(-1), BAD);
@@ -792,7 +774,7 @@ public final class PromisesTest {
 
     /** 29 */
     private static void count() {
-        TurnVoice x = told("p8;r0 7 1;r0 7 1;g3 5;n20;l9;");
+        TurnVoice x = Towns.told("p8;r0 7 1;r0 7 1;g3 5;n20;l9;");
         x.plans(0);
         x.saw(0, 0);
         x.saw(0, 0);
@@ -806,7 +788,7 @@ public final class PromisesTest {
 
     /** 30 */
     private static void trace() {
-        TurnVoice x = told(SQUARE);
+        TurnVoice x = Towns.told(SQUARE);
         long[] added = {1, 11, 101, 1011, 10101, 100001};
         long sum = 0;
         for (int kind = 0; kind < 6; kind++) {
