@@ -558,7 +558,7 @@ public final class TurnVoice {
 
         /** No road is straight with itself, so to go back by the same one is a turn. */
         boolean isTurn(int came, int r) {
-            return hasRoad(came) && !has(straight[came], r);
+            return came >= 0 && came < roads && (straight[came] >> r & 1) == 0;
         }
 
         int nervesFor(int came, int r) {
@@ -674,33 +674,30 @@ public final class TurnVoice {
 
         /** How many items there are, or -10 less the fault. */
         int read(Town town) {
+            beginReading(town);
+            int items = 0;
+            while (token != END && items < MOST_LETTERS) {
+                int kind = token;
+                if (!canBegin(kind, town, items == 0)) {
+                    return FAULT_BASE - tokenAt;
+                }
+                readToken();
+                if (!readNumbers(kind, town) || token != ';') {
+                    return FAULT_BASE - tokenAt;
+                }
+                readToken();
+                items++;
+            }
+            return items;
+        }
+
+        private void beginReading(Town town) {
             town.beAsAtFirst();
             goalTold = false;
             nervesTold = false;
             loadTold = false;
             next = 0;
             readToken();
-            int items = 0;
-            while (token != END && items < MOST_LETTERS) {
-                if (!readItem(town, items == 0)) {
-                    return FAULT_BASE - tokenAt;
-                }
-                items++;
-            }
-            return items;
-        }
-
-        private boolean readItem(Town town, boolean isFirst) {
-            int kind = token;
-            if (!canBegin(kind, town, isFirst)) {
-                return false;
-            }
-            readToken();
-            if (!readNumbers(kind, town) || token != ';') {
-                return false;
-            }
-            readToken();
-            return true;
         }
 
         private boolean canBegin(int kind, Town town, boolean isFirst) {
@@ -816,33 +813,28 @@ public final class TurnVoice {
                 next++;
             }
             tokenAt = next;
-            if (next >= length) {
+            readDigits();
+            int digits = next - tokenAt;
+            if (digits > 0) {
+                boolean zeroAhead = digits > 1 && letters[tokenAt] == '0';
+                token = digits > 2 || zeroAhead ? WRONG : NUMBER;
+            } else if (next >= length) {
                 token = END;
-            } else if (isDigit(letters[next])) {
-                readDigits();
             } else {
                 token = isTokenLetter(letters[next]) ? letters[next] : WRONG;
                 next++;
             }
         }
 
-        /** Three digits are above 99, whatever they are, if no 0 may stand ahead. */
+        /** Three digits are above 99, whatever they are, if no 0 may stand ahead: two are all that is counted. */
         private void readDigits() {
-            int first = next;
             number = 0;
-            while (next < length && isDigit(letters[next])) {
-                if (next - first < 2) {
+            while (next < length && letters[next] >= '0' && letters[next] <= '9') {
+                if (next - tokenAt < 2) {
                     number = number * 10 + letters[next] - '0';
                 }
                 next++;
             }
-            int digits = next - first;
-            boolean zeroAhead = digits > 1 && letters[first] == '0';
-            token = digits > 2 || zeroAhead ? WRONG : NUMBER;
-        }
-
-        private static boolean isDigit(int letter) {
-            return isWithin(letter, '0', '9');
         }
 
         private static boolean isTokenLetter(int letter) {
@@ -988,6 +980,7 @@ public final class TurnVoice {
         int follow(int place, int came) {
             rowLength = 0;
             rowTurns = 0;
+            int minutes = 0;
             int here = place;
             int last = came;
             while (here != town.goal && rowLength < MOST_ARRIVALS) {
@@ -998,12 +991,13 @@ public final class TurnVoice {
                 if (town.isTurn(last, r)) {
                     rowTurns++;
                 }
+                minutes += cost[r] + town.nervesFor(last, r);
                 row[rowLength] = r;
                 rowLength++;
                 here = town.otherEnd(r, here);
                 last = r;
             }
-            return minutesFrom(place, came);
+            return minutes;
         }
 
         /** How often a car that goes the row finds another one that goes it, too, on its road. */

@@ -8,8 +8,11 @@ import java.util.ArrayList;
 import java.util.Arrays;
 import java.util.HashSet;
 import java.util.List;
+import java.util.Map;
 import java.util.Set;
+import java.util.TreeMap;
 import java.util.TreeSet;
+import java.util.regex.Matcher;
 import java.util.regex.Pattern;
 
 /** The public face, to the letter, and the rules of LANGUAGE.md that a program can look at. */
@@ -98,21 +101,52 @@ public final class FaceTest {
         for (String line : code.split("\n")) {
             due.holds("nothing forbidden in: " + line.trim(), !forbidden.matcher(line).find());
         }
-        methodsAreShort(source.split("\n"));
+        methods(code.split("\n"));
     }
 
     /** By the indentation of the file: a method's head and its end stand alike far in. */
-    private static void methodsAreShort(String[] lines) {
-        Pattern head = Pattern.compile("^( {4}| {8})[\\w\\[\\] ]+\\([^;]*\\) \\{$");
+    private static void methods(String[] lines) {
+        Pattern head = Pattern.compile("^(?: {4}| {8})[\\w\\[\\] ]+ (\\w+)\\([^;]*\\) \\{$");
+        Map<String, Set<String>> calls = new TreeMap<>();
         for (int i = 0; i < lines.length; i++) {
-            if (head.matcher(lines[i]).find() && !lines[i].trim().matches("(if|for|while|switch).*")) {
+            Matcher found = head.matcher(lines[i]);
+            if (found.find() && !lines[i].trim().matches("(if|for|while|switch).*")) {
                 String end = lines[i].replaceAll("\\S.*", "") + "}";
                 int last = i;
                 while (last < lines.length - 1 && !lines[last].equals(end)) {
                     last++;
                 }
                 due.holds("short: " + lines[i].trim(), last - i < 60);
+                Set<String> called = calls.computeIfAbsent(found.group(1), name -> new TreeSet<>());
+                called.addAll(calledIn(String.join("\n", Arrays.asList(lines).subList(i + 1, last))));
             }
         }
+        due.holds("the face's methods are seen", calls.size() > METHODS.length);
+        for (String name : calls.keySet()) {
+            int depth = depthOf(name, calls, new HashSet<>());
+            due.holds(name + " goes eight deep at most, not " + depth, depth <= 8);
+        }
+    }
+
+    private static Set<String> calledIn(String body) {
+        Set<String> called = new TreeSet<>();
+        Matcher call = Pattern.compile("(\\w+)\\(").matcher(body);
+        while (call.find()) {
+            called.add(call.group(1));
+        }
+        return called;
+    }
+
+    /** By names alone; a method that calls itself counts once. */
+    private static int depthOf(String name, Map<String, Set<String>> calls, Set<String> open) {
+        if (!calls.containsKey(name) || !open.add(name)) {
+            return 0;
+        }
+        int deepest = 0;
+        for (String called : calls.get(name)) {
+            deepest = Math.max(deepest, depthOf(called, calls, open));
+        }
+        open.remove(name);
+        return deepest + 1;
     }
 }

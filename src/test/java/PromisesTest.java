@@ -422,6 +422,7 @@ public final class PromisesTest {
         wayIs("of two alike", Towns.told("r0 1 4;r1 0 4;"), 4, 0, 0);
         wayIs("the first road by road", Towns.told("p4;r0 2 1;r0 2 1;r2 1 1;r2 1 1;s1 2;s1 3;s0 3;"), 2, 0, 0, 3);
         wayIs("more roads, but first", Towns.told("p3;r0 2 1;r0 1 2;r2 1 1;n0;"), 2, 1, 0, 2);
+        wayIs("by a road told backwards", Towns.told("p3;r1 2 5;r0 2 4;"), 4 + 2 + 5, 1, 1, 0);
         wayIs("turns cost nothing", Towns.told("p3;r0 1 2;r0 2 1;r2 1 1;n0;"), 2, 0, 0);
     }
 
