@@ -473,10 +473,11 @@ public final class TurnVoice {
         return left;
     }
 
-    /** ABOVE leads every kind to ROAD in two steps at most, so this goes three deep at most. */
+    /** Up goes to a lower number alone, so this ends, three deep at most. */
     private int ratedAs(int kind, int r) {
         traceSum += TRACE_MARK[kind];
-        int up = kind == ROAD ? longOf(r) : ratedAs(ABOVE[kind], r);
+        int above = ABOVE[kind];
+        int up = isWithin(above, ROAD, kind - 1) ? ratedAs(above, r) : longOf(r);
         switch (kind) {
             case LANE: return up + present.jam[r];
             case FORD: return up - Integer.bitCount(present.shut);
